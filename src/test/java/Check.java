@@ -1,0 +1,53 @@
+/** Counts the answers of a test that are not the ones that are due. */
+final class Check {
+    private int wrong = 0;
+    private int made = 0;
+
+    void due(String what, Object got, Object want) {
+        made++;
+        if (!want.equals(got)) {
+            wrong++;
+            System.out.println(what + "\n  answered " + got + "\n  due is   " + want);
+        }
+    }
+
+    /** The tree of a text without places. */
+    void tree(String text, String want) {
+        due(text, new Text().read(new CoreSyntax(), text, false), want);
+    }
+
+    /** The tree of a text with places. */
+    void placed(String text, String want) {
+        due(text, new Text().read(new CoreSyntax(), text, true), want);
+    }
+
+    /** The tree of the one expression that a program is. */
+    void exp(String text, String want) {
+        tree(text, "decs([val(- [bind(.it " + want + ")])])");
+    }
+
+    /** Two texts with the same tree, but for places. */
+    void alike(String text, String other) {
+        String want = new Text().read(new CoreSyntax(), other, false);
+        due("a fault in " + other, want.startsWith("fault"), false);
+        tree(text, want);
+    }
+
+    /** A text with a fault, or "" for one without. */
+    void fault(String text, int kind, int place) {
+        String got = new Text().read(new CoreSyntax(), text, false);
+        due(text, got.startsWith("fault") ? got : "no fault", "fault " + kind + " at " + place);
+    }
+
+    void good(String text) {
+        String got = new Text().read(new CoreSyntax(), text, false);
+        due(text, got.startsWith("fault") ? got : "no fault", "no fault");
+    }
+
+    void end(String test) {
+        System.out.println(test + ": " + made + " checks, " + wrong + " wrong");
+        if (wrong != 0) {
+            System.exit(1);
+        }
+    }
+}
