@@ -201,7 +201,7 @@ public final class CoreSyntax {
         forms.variables = 0;
         numbering.variables = 0;
         cursor.begin();
-        int root = reader.program();
+        int root = reader.decs(true);
         cursor.count = 0;
         if (cursor.faultKind != 0) {
             fixities.back(0);
@@ -434,45 +434,45 @@ public final class CoreSyntax {
         }
 
         int kind(int i) {
-            return has(i) ? kinds[i] : NONE;
+            return i >= 0 && i < size ? kinds[i] : NONE;
         }
 
         int a(int i) {
-            return has(i) ? as[i] : NONE;
+            return i >= 0 && i < size ? as[i] : NONE;
         }
 
         int b(int i) {
-            return has(i) ? bs[i] : NONE;
+            return i >= 0 && i < size ? bs[i] : NONE;
         }
 
         int c(int i) {
-            return has(i) ? cs[i] : NONE;
+            return i >= 0 && i < size ? cs[i] : NONE;
         }
 
         int place(int i) {
-            return has(i) ? places[i] : NONE;
+            return i >= 0 && i < size ? places[i] : NONE;
         }
 
         void setA(int i, int value) {
-            if (has(i)) {
+            if (i >= 0 && i < size) {
                 as[i] = value;
             }
         }
 
         void setB(int i, int value) {
-            if (has(i)) {
+            if (i >= 0 && i < size) {
                 bs[i] = value;
             }
         }
 
         void setC(int i, int value) {
-            if (has(i)) {
+            if (i >= 0 && i < size) {
                 cs[i] = value;
             }
         }
 
         void setPlace(int i, int value) {
-            if (has(i)) {
+            if (i >= 0 && i < size) {
                 places[i] = value;
             }
         }
@@ -785,7 +785,7 @@ public final class CoreSyntax {
         }
 
         boolean atTycon() {
-            return kind == LONG_NAME || atShortTycon();
+            return kind == LONG_NAME || kind == ALPHANUMERIC || kind == SYMBOLIC && value != N_STAR;
         }
 
         boolean atStar() {
@@ -1571,20 +1571,17 @@ public final class CoreSyntax {
             return first;
         }
 
-        int datatypeDec() {
-            int start = cursor.at;
-            cursor.step();
-            boolean copy = cursor.atShortTycon() && cursor.wordAt(cursor.at + 1, S_EQUALS)
+        boolean atReplication() {
+            return cursor.atShortTycon() && cursor.wordAt(cursor.at + 1, S_EQUALS)
                 && cursor.wordAt(cursor.at + 2, W_DATATYPE);
-            if (copy) {
-                int name = cursor.readShortTycon();
-                cursor.take(S_EQUALS);
-                cursor.take(W_DATATYPE);
-                cursor.readTycon();
-                return tree.add(REPLICATE, name, cursor.name, cursor.longName, start);
-            }
-            int datbinds = datbinds();
-            return tree.add(DATATYPE, datbinds, withtype(), NONE, start);
+        }
+
+        int replication(int start) {
+            int name = cursor.readShortTycon();
+            cursor.take(S_EQUALS);
+            cursor.take(W_DATATYPE);
+            cursor.readTycon();
+            return tree.add(REPLICATE, name, cursor.name, cursor.longName, start);
         }
 
         int exceptionDec() {
@@ -1672,29 +1669,6 @@ public final class CoreSyntax {
             types = new TypeReader(cursor, tree);
             patterns = new PatternReader(cursor, tree, operators, forms, types);
             binds = new BindReader(cursor, tree, fixities, types);
-        }
-
-        int program() {
-            int first = NONE;
-            int last = NONE;
-            boolean expMayStand = true;
-            for (int turn = 0; turn < MOST_TURNS && cursor.kind != NONE; turn++) {
-                int node = NONE;
-                if (cursor.skip(S_SEMICOLON)) {
-                    expMayStand = true;
-                } else if (atDec()) {
-                    node = dec();
-                    expMayStand = false;
-                } else if (expMayStand) {
-                    node = programExp();
-                    expMayStand = false;
-                } else {
-                    cursor.refuse(MISPLACED);
-                }
-                last = node == NONE ? last : tree.append(last, node);
-                first = first == NONE ? last : first;
-            }
-            return tree.add(DECS, first, NONE, NONE, 0);
         }
 
         private int programExp() {
@@ -1902,7 +1876,7 @@ public final class CoreSyntax {
             int start = cursor.at;
             int mark = fixities.mark();
             cursor.enter();
-            int decs = decs();
+            int decs = decs(false);
             cursor.take(W_IN);
             int first = tree.append(NONE, exp());
             more(first, S_SEMICOLON);
@@ -1911,14 +1885,31 @@ public final class CoreSyntax {
             return tree.add(LET, decs, forms.sequence(first, start), NONE, start);
         }
 
-        private int decs() {
+        /** Declarations, or a whole program: there expressions may stand too, and the end must. */
+        private int decs(boolean program) {
             int start = cursor.at;
             int first = NONE;
             int last = NONE;
-            for (int turn = 0; turn < MOST_TURNS && (atDec() || cursor.atWord(S_SEMICOLON)); turn++) {
-                int node = cursor.skip(S_SEMICOLON) ? NONE : dec();
+            boolean expMayStand = program;
+            boolean more = true;
+            for (int turn = 0; turn < MOST_TURNS && more; turn++) {
+                int node = NONE;
+                if (cursor.skip(S_SEMICOLON)) {
+                    expMayStand = program;
+                } else if (atDec()) {
+                    node = dec();
+                    expMayStand = false;
+                } else if (expMayStand && cursor.kind != NONE) {
+                    node = programExp();
+                    expMayStand = false;
+                } else {
+                    more = false;
+                }
                 last = node == NONE ? last : tree.append(last, node);
                 first = first == NONE ? last : first;
+            }
+            if (program && cursor.kind != NONE) {
+                cursor.refuse(MISPLACED);
             }
             return tree.add(DECS, first, NONE, NONE, start);
         }
@@ -1942,13 +1933,13 @@ public final class CoreSyntax {
                 case W_FUN:
                     return funDec();
                 case W_ABSTYPE:
-                    return abstypeDec();
+                    return datatypeDec(true);
                 case W_LOCAL:
                     return localDec();
                 case W_TYPE:
                     return binds.typeDec();
                 case W_DATATYPE:
-                    return binds.datatypeDec();
+                    return datatypeDec(false);
                 case W_EXCEPTION:
                     return binds.exceptionDec();
                 case W_OPEN:
@@ -2023,13 +2014,24 @@ public final class CoreSyntax {
             return tree.add(VAL, variables, firstBind, NONE, begin);
         }
 
-        private int abstypeDec() {
+        /** A datatype declaration, or one that hides its constructors behind further ones. */
+        private int datatypeDec(boolean hiding) {
             int start = cursor.at;
-            cursor.enter();
+            if (hiding) {
+                cursor.enter();
+            } else {
+                cursor.step();
+            }
+            if (!hiding && binds.atReplication()) {
+                return binds.replication(start);
+            }
             int datbinds = binds.datbinds();
             int typbinds = binds.withtype();
+            if (!hiding) {
+                return tree.add(DATATYPE, datbinds, typbinds, NONE, start);
+            }
             cursor.take(W_WITH);
-            int decs = decs();
+            int decs = decs(false);
             cursor.close(W_END);
             return tree.add(ABSTYPE, datbinds, typbinds, decs, start);
         }
@@ -2038,10 +2040,10 @@ public final class CoreSyntax {
             int start = cursor.at;
             int outer = fixities.mark();
             cursor.enter();
-            int hidden = decs();
+            int hidden = decs(false);
             cursor.take(W_IN);
             int inner = fixities.mark();
-            int shown = decs();
+            int shown = decs(false);
             cursor.close(W_END);
             fixities.leaveLocal(outer, inner);
             return tree.add(LOCAL, hidden, shown, NONE, start);
