@@ -1438,7 +1438,10 @@ public final class CoreSyntax {
             return cursor.wordAt(closing, S_ROUND_END) && !cursor.operatorAt(closing + 1);
         }
 
-        /** The place behind the atomic pattern there; NONE without one. What is in brackets is not looked at. */
+        /**
+         * The place behind the atomic pattern there; NONE without one. What stands in brackets is
+         * not looked at: a fault in it is told when it is read, whichever form the head has.
+         */
         private int behindAtomic(int place) {
             int kind = cursor.kindAt(place);
             if (cursor.nameAt(place)) {
