@@ -1904,7 +1904,6 @@ public final class CoreSyntax {
                     expMayStand = false;
                 } else if (expMayStand && cursor.kind != NONE) {
                     node = programExp();
-                    expMayStand = false;
                 } else {
                     more = false;
                 }

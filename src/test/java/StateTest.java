@@ -14,6 +14,7 @@ public final class StateTest {
         faults();
         retreating();
         retreatAcrossFaults();
+        retreatFromTheLastAlone();
         fixityOfNoName();
         CHECK.end("StateTest");
     }
@@ -220,6 +221,23 @@ public final class StateTest {
         CHECK.due("retreat from both", x.retreat(), true);
         CHECK.due("c is gone", x.fixity(text.name("c")), -1);
         CHECK.due("a stays", x.fixity(a), 10);
+    }
+
+    private static void retreatFromTheLastAlone() {
+        CoreSyntax x = new CoreSyntax();
+        Text text = new Text();
+        text.give(x, "infix 5 a b c");
+        x.parse();
+        text.give(x, "infix 6 d nonfix b");
+        x.parse();
+        CHECK.due("retreat", x.retreat(), true);
+        CHECK.due("a of the parse before", x.fixity(text.name("a")), 10);
+        CHECK.due("b of the parse before", x.fixity(text.name("b")), 10);
+        CHECK.due("c of the parse before", x.fixity(text.name("c")), 10);
+        CHECK.due("d of the last parse", x.fixity(text.name("d")), -1);
+        x.parse();
+        CHECK.due("retreat from a parse of nothing", x.retreat(), true);
+        CHECK.due("a stays", x.fixity(text.name("a")), 10);
     }
 
     private static void fixityOfNoName() {
