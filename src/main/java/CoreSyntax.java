@@ -815,20 +815,31 @@ public final class CoreSyntax {
             }
         }
 
-        /** Reads [op] NAME, where a name up to the last of those that are kept may not be bound. */
-        int readBound(int lastKept) {
+        /** Reads [op] NAME as that of a constructor or exception. */
+        int readConstructor() {
             boolean behindOp = skip(W_OP);
-            int bound = value;
-            if (!atName()) {
-                refuse(behindOp && atWord(S_EQUALS) ? NOT_BINDABLE : MISPLACED);
-                return NONE;
-            }
-            if (bound <= lastKept) {
+            boolean kept = atName() ? value <= N_IT : behindOp && atWord(S_EQUALS);
+            if (kept) {
                 refuse(NOT_BINDABLE);
                 return NONE;
             }
+            return readName();
+        }
+
+        /** Reads [op] NAME as that of a function: which ones may not be bound its clause's = tells. */
+        int readFunction() {
+            skip(W_OP);
+            return readName();
+        }
+
+        private int readName() {
+            int here = value;
+            if (!atName()) {
+                refuse(MISPLACED);
+                return NONE;
+            }
             step();
-            return bound;
+            return here;
         }
 
         /** Reads the name of a type that is bound. */
@@ -1390,7 +1401,7 @@ public final class CoreSyntax {
                 cursor.enter();
             }
             if (named) {
-                headName = cursor.readBound(NONE);
+                headName = cursor.readFunction();
             } else {
                 int left = atomic();
                 headName = readOperator();
@@ -1565,7 +1576,7 @@ public final class CoreSyntax {
             boolean more = true;
             for (int turn = 0; turn < MOST_TURNS && more; turn++) {
                 int start = cursor.at;
-                int name = cursor.readBound(N_IT);
+                int name = cursor.readConstructor();
                 int type = cursor.skip(W_OF) ? types.type() : NONE;
                 last = tree.append(last, tree.add(CONBIND, name, type, NONE, start));
                 first = first == NONE ? last : first;
@@ -1595,7 +1606,7 @@ public final class CoreSyntax {
             boolean more = true;
             for (int turn = 0; turn < MOST_TURNS && more; turn++) {
                 int start = cursor.at;
-                int name = cursor.readBound(N_IT);
+                int name = cursor.readConstructor();
                 int bind = NONE;
                 if (cursor.skip(S_EQUALS)) {
                     cursor.readId(false);

@@ -168,8 +168,29 @@ public final class FaultTest {
         CHECK.fault("fn ( op = ) => 1", 6, 3);
         CHECK.fault("val { a = op = } = 1", 6, 5);
         CHECK.fault("fun f op = = 1", 6, 3);
-        CHECK.fault("fun op = x = 1", 6, 2);
+        CHECK.fault("fun op `= x = 1", 6, 4);
+        headSign();
         CHECK.good("val x = op =");
+    }
+
+    /** The name of a clause's head is in no pattern: the sign = cannot stand there, a pattern's can be 6. */
+    private static void headSign() {
+        CHECK.fault("fun op =", 1, 2);
+        CHECK.fault("fun op = x = 1", 1, 2);
+        CHECK.fault("fun op = = 1", 1, 2);
+        CHECK.fault("fun 'a op = x = 1", 1, 3);
+        CHECK.fault("fun ( 'a , 'b ) op = x = 1", 1, 7);
+        CHECK.fault("fun f x = 1 | op = x = 1", 1, 7);
+        CHECK.fault("fun f x = 1 and op = x = 1", 1, 7);
+        CHECK.fault("let fun op = x = 1 in 1 end", 1, 3);
+        CHECK.fault("nonfix `= fun op = x = 1", 1, 4);
+        CHECK.fault("fun = x = 1", 1, 1);
+        CHECK.fault("fun op op = x = 1", 1, 2);
+        CHECK.fault("fun op f op = x = 1", 6, 4);
+        CHECK.fault("fun ( op = + x ) = 1", 6, 3);
+        CHECK.fault("fun ( op = ) + x = 1", 6, 3);
+        CHECK.fault("fun x + op = = 1", 6, 4);
+        CHECK.fault("fun ( x + y ) op = = 1", 6, 7);
     }
 
     private static void order() {

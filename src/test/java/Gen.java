@@ -964,7 +964,7 @@ final class Gen {
         List<Node> pats = new ArrayList<>();
         boolean infix = fix[name] >= 0 && once(2);
         if (!infix) {
-            putId(name);
+            putFunction(name);
         } else {
             boolean brackets = many > 1 || once(2);
             if (brackets) {
@@ -983,12 +983,27 @@ final class Gen {
         return pats;
     }
 
+    /** The sign = cannot stand for a function's name, which is in no pattern. */
+    private void putFunction(int name) {
+        if (sin()) {
+            word(OP);
+            fault(1);
+            word(EQ);
+        } else {
+            putId(name);
+        }
+    }
+
     /** An atomic pattern that does not begin with op: such a head would be of the first form. */
     private Node opless(int size) {
         int start = at();
         Node pat = atomicPattern(size);
-        while (tokens.get(start)[0] == 1 && tokens.get(start)[1] == OP && faultKind == 0) {
+        while (tokens.get(start)[0] == 1 && tokens.get(start)[1] == OP) {
             tokens.subList(start, at()).clear();
+            if (faultPlace >= start) {
+                faultKind = 0;
+                faultPlace = -1;
+            }
             pat = atomicPattern(size);
         }
         return pat;

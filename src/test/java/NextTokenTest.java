@@ -60,7 +60,7 @@ public final class NextTokenTest {
             if (x.fault(0) == 0 || x.fault(1) > place) {
                 got.add(token);
             } else {
-                boolean sign = token.equals("=") && beginning.endsWith("op");
+                boolean sign = token.equals("=") && beginning.endsWith("op") && !beginning.equals("fun op");
                 String want = (sign ? 6 : 1) + " at " + place;
                 CHECK.due(beginning + " " + token, x.fault(0) + " at " + x.fault(1), want);
             }

@@ -18,7 +18,7 @@ public final class RandomProgramTest {
             whole(seed + 1000000L, 20, seed % 5 == 4);
         }
         System.out.println("good " + good + ", most nodes " + most + ", faults " + java.util.Arrays.toString(SEEN));
-        for (int kind = 2; kind <= 6; kind++) {
+        for (int kind = 1; kind <= 6; kind++) {
             CHECK.due("faults of kind " + kind + " were made", SEEN[kind] > 10, true);
         }
         CHECK.end("RandomProgramTest");
