@@ -826,10 +826,10 @@ public final class CoreSyntax {
             return readName();
         }
 
-        /** Reads [op] NAME as that of a function: which ones may not be bound its clause's = tells. */
+        /** Reads [op] NAME, or op and the sign =, of a function: the clause's = tells which may not be bound. */
         int readFunction() {
-            skip(W_OP);
-            return readName();
+            boolean behindOp = skip(W_OP);
+            return behindOp && skip(S_EQUALS) ? N_EQUALS : readName();
         }
 
         private int readName() {

@@ -173,24 +173,41 @@ public final class FaultTest {
         CHECK.good("val x = op =");
     }
 
-    /** The name of a clause's head is in no pattern: the sign = cannot stand there, a pattern's can be 6. */
+    /** As a function's name the sign = can stand behind op: then its patterns come, and the clause's = tells 6. */
     private static void headSign() {
-        CHECK.fault("fun op =", 1, 2);
-        CHECK.fault("fun op = x = 1", 1, 2);
-        CHECK.fault("fun op = = 1", 1, 2);
-        CHECK.fault("fun 'a op = x = 1", 1, 3);
-        CHECK.fault("fun ( 'a , 'b ) op = x = 1", 1, 7);
-        CHECK.fault("fun f x = 1 | op = x = 1", 1, 7);
-        CHECK.fault("fun f x = 1 and op = x = 1", 1, 7);
-        CHECK.fault("let fun op = x = 1 in 1 end", 1, 3);
-        CHECK.fault("nonfix `= fun op = x = 1", 1, 4);
+        CHECK.fault("fun op = x =", 6, 4);
+        CHECK.fault("fun op = x = 1", 6, 4);
+        CHECK.fault("fun op = x y ( z , 1 ) = 1", 6, 10);
+        CHECK.fault("fun op = x : t = 1", 6, 6);
+        CHECK.fault("fun 'a op = x = 1", 6, 5);
+        CHECK.fault("fun ( 'a , 'b ) op = x = 1", 6, 9);
+        CHECK.fault("fun f x = 1 | op = x = 1", 6, 9);
+        CHECK.fault("fun f x = 1 | op = x y = 1", 6, 10);
+        CHECK.fault("fun f x = 1 and op = x = 1", 6, 9);
+        CHECK.fault("let fun op = x = 1 in 1 end", 6, 5);
+        CHECK.fault("nonfix `= fun op = x = 1", 6, 6);
+        headSignAlone();
         CHECK.fault("fun = x = 1", 1, 1);
         CHECK.fault("fun op op = x = 1", 1, 2);
+        CHECK.fault("fun op = op = = 1", 6, 4);
         CHECK.fault("fun op f op = x = 1", 6, 4);
         CHECK.fault("fun ( op = + x ) = 1", 6, 3);
         CHECK.fault("fun ( op = ) + x = 1", 6, 3);
+        CHECK.fault("fun ( op = x ) = 1", 6, 3);
         CHECK.fault("fun x + op = = 1", 6, 4);
         CHECK.fault("fun ( x + y ) op = = 1", 6, 7);
+    }
+
+    /** Behind fun op = the token that begins no atomic pattern is the place, not the sign. */
+    private static void headSignAlone() {
+        CHECK.fault("fun op =", 1, 3);
+        CHECK.fault("fun op = = 1", 1, 3);
+        CHECK.fault("fun op = : t = 1", 1, 3);
+        CHECK.fault("fun op = + x = 1", 1, 3);
+        CHECK.fault("fun op = x + y = 1", 1, 4);
+        CHECK.fault("fun op = ; x = 1", 1, 3);
+        CHECK.fault("fun f x = 1 | op = = 1", 1, 8);
+        CHECK.fault("let fun op = in 1 end", 1, 4);
     }
 
     private static void order() {

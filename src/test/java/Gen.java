@@ -901,8 +901,11 @@ final class Gen {
     }
 
     private int functionName() {
+        if (sin()) {
+            return once(2) ? 6 : pick(5);
+        }
         int name = anyName();
-        while ((name <= 4 || name == 6) && !sin()) {
+        while (name <= 4 || name == 6) {
             name = anyName();
         }
         return name;
@@ -983,14 +986,17 @@ final class Gen {
         return pats;
     }
 
-    /** The sign = cannot stand for a function's name, which is in no pattern. */
+    /** The name = may be told by the sign, behind op; the first pattern must follow, whatever the name. */
     private void putFunction(int name) {
-        if (sin()) {
+        if (name == 6 && once(2)) {
             word(OP);
-            fault(1);
             word(EQ);
         } else {
             putId(name);
+        }
+        if (sin()) {
+            fault(1);
+            word(once(2) ? EQ : COLON);
         }
     }
 

@@ -60,8 +60,8 @@ public final class NextTokenTest {
             if (x.fault(0) == 0 || x.fault(1) > place) {
                 got.add(token);
             } else {
-                boolean sign = token.equals("=") && beginning.endsWith("op") && !beginning.equals("fun op");
-                String want = (sign ? 6 : 1) + " at " + place;
+                boolean unbindable = beginning.endsWith("op") || beginning.startsWith("fun op = ");
+                String want = (unbindable && token.equals("=") ? 6 : 1) + " at " + place;
                 CHECK.due(beginning + " " + token, x.fault(0) + " at " + x.fault(1), want);
             }
         }
@@ -227,7 +227,10 @@ public final class NextTokenTest {
         next("fun", PAT + " 'a", false);
         next("fun 'a", PAT, false);
         next("fun ( 'a )", PAT, false);
-        next("fun op", NAMES, false);
+        next("fun op", NAMES + " =", false);
+        next("fun op =", PAT, false);
+        next("fun op = x", PAT + " :", false);
+        next("fun op = x : t", BEHIND_TYPE, false);
         next("fun f", PAT + OPERATORS, false);
         next("fun op f", PAT, false);
         next("fun A.b", OPERATORS, false);
