@@ -6,10 +6,11 @@ import java.util.Map;
 
 /**
  * Turns readable text into tokens, and trees into readable text. Besides the language's own
- * spelling: `= and `* are the names 6 and 7 as tokens of the kind that the rest of the text lacks
- * (symbolic =, alphanumeric *), $5 is the integer 5 without a number, w5 c5 s5 behind a quote
- * ('w5, 'c5, 's5) are constants of the other kinds, %49 is the word of that number, and a name
- * with a dot is a long one. 'a alone is a type variable.
+ * spelling: ` before a name turns its kind (`* is alphanumeric, `x symbolic), `= is the name 6 as
+ * a symbolic token and ``= as an alphanumeric one, ?40 is the alphanumeric name of that number,
+ * $5 is the integer 5 without a number, 5#3 the integer 5 with the number 3, w5 c5 s5 behind a
+ * quote ('w5, 'c5, 's5) are constants of the other kinds, %49 is the word of that number, and a
+ * name with a dot is a long one. 'a alone is a type variable.
  */
 final class Text {
     static final String[] WORDS = {
@@ -24,6 +25,12 @@ final class Text {
     };
     private static final String SYMBOLS = "!%&$#+-/:<=>?@\\~^|*";
 
+    /** By precedence: names to the left, then names to the right. */
+    private static final String[][] OPERATORS = {
+        {"before", ""}, {"", ""}, {"", ""}, {":= o", ""}, {"= <> > >= < <=", ""}, {"", ":: @"},
+        {"+ - ^", ""}, {"* / div mod", ""}, {"", ""}, {"", ""}
+    };
+
     private final Map<String, Integer> names = new HashMap<>();
     private final List<String> spelled = new ArrayList<>();
     private final Map<String, Integer> longs = new HashMap<>();
@@ -35,6 +42,16 @@ final class Text {
         for (char letter = 'a'; letter <= 'z'; letter++) {
             name(String.valueOf(letter));
         }
+    }
+
+    /** The fixity that a name of the document has at first. */
+    static int firstFixity(int name) {
+        for (int fixity = 0; fixity < 20; fixity++) {
+            if (Arrays.asList(OPERATORS[fixity / 2][fixity % 2].split(" ")).contains(NAMES[name])) {
+                return fixity;
+            }
+        }
+        return -1;
     }
 
     int name(String text) {
@@ -70,8 +87,20 @@ final class Text {
         if (piece.equals("`=")) {
             return new int[] {3, 6, -1};
         }
-        if (piece.equals("`*")) {
-            return new int[] {2, 7, -1};
+        if (piece.equals("``=")) {
+            return new int[] {2, 6, -1};
+        }
+        if (first == '`') {
+            int[] plain = token(rest);
+            return new int[] {5 - plain[0], plain[1], -1};
+        }
+        if (piece.matches("\\?[0-9]+")) {
+            return new int[] {2, Integer.parseInt(rest), -1};
+        }
+        if (piece.matches("[0-9]+#[0-9]+")) {
+            int split = piece.indexOf('#');
+            int number = Integer.parseInt(piece.substring(split + 1));
+            return new int[] {6, Integer.parseInt(piece.substring(0, split)), number};
         }
         if (first == '%' && rest.matches("[0-9]+")) {
             return new int[] {1, Integer.parseInt(rest), -1};
