@@ -133,6 +133,9 @@ public final class FixityEdgeTest {
         fixity("infix 2 a ; let infix 3 a in let infix 4 a in 1 end end", "a", 4);
         fixity("let local in infix 3 a end in 1 end", "a", CoreSyntax.NONE);
         fixity("let abstype t = A with infix 3 a end in 1 end", "a", CoreSyntax.NONE);
+        fixity("local in val x = let infix 3 a in 1 end end", "a", CoreSyntax.NONE);
+        fixity("local in val x = let infix 3 a in 1 end infix 4 b end", "a", CoreSyntax.NONE);
+        fixity("local in val x = let infix 3 a in 1 end infix 4 b end", "b", 8);
         CHECK.exp("let infix f in let nonfix f in a f b end f b end",
             "let(decs(-) app(f rec([1=(let(decs(-) " + APART + ")) 2=(b)])))");
     }
@@ -147,6 +150,10 @@ public final class FixityEdgeTest {
         fixity("infix 2 a local infix 3 a in end", "a", 4);
         fixity("local local infix 3 a in infix 4 b end in end", "b", CoreSyntax.NONE);
         fixity("local abstype t = A with infix 3 a end in end", "a", CoreSyntax.NONE);
+        fixity("local in local infix 3 a in end end", "a", CoreSyntax.NONE);
+        fixity("local in local infix 3 a b in infix 4 c end infix 5 b end", "a", CoreSyntax.NONE);
+        fixity("local in local infix 3 a b in infix 4 c end infix 5 b end", "b", 10);
+        fixity("local in local infix 3 a b in infix 4 c end infix 5 b end", "c", 8);
         CHECK.faultAt(1, "local infix f in val x = ~> f end");
         CHECK.good("local infix f in end val x = f");
     }
@@ -305,6 +312,12 @@ public final class FixityEdgeTest {
         CHECK.due("b then", x.fixity(name("b")), 6);
         CHECK.due("c then", x.fixity(name("c")), CoreSyntax.NONE);
         CHECK.due("retreat again", x.retreat(), false);
+        new Text().read(x, "infix 9 d", false);
+        new Text().read(x, "nonfix d )", false);
+        x.retreat();
+        x.parse();
+        CHECK.due("retreat from a parse of nothing", x.retreat(), true);
+        CHECK.due("d is not taken back twice", x.fixity(name("d")), CoreSyntax.NONE);
     }
 
     private static void retreatLeavesTheTree() {

@@ -90,6 +90,9 @@ public final class GrammarEdgeTest {
         CHECK.tree("type t = a * b", "decs([type([tb(- t trec([1:(t(- a)) 2:(t(- b))]))])])");
         CHECK.faultAt(1, "type t = ~> =");
         CHECK.faultAt(1, "type t = ~> op u");
+        CHECK.good("while x : t do y");
+        CHECK.faultAt(1, "x : t ~> 7");
+        CHECK.faultAt(1, "x : t ~> 's7");
     }
 
     private static void tuples() {
@@ -342,6 +345,8 @@ public final class GrammarEdgeTest {
             CHECK.faultAt(1, word + " ( 'a ~> 'b )" + rest);
             CHECK.faultAt(1, word + " 'a ~> 'b" + rest);
             CHECK.faultAt(1, word + " ( ~> a )" + rest);
+            CHECK.faultAt(1, word + " ~> = A");
+            CHECK.faultAt(1, word + " 'a ~> = A");
         }
         CHECK.good("val 'a x = 1");
         CHECK.good("val ( 'a , 'b ) x = 1");
@@ -400,6 +405,11 @@ public final class GrammarEdgeTest {
         CHECK.alike("fun ( C x + y ) - z = 1", "fun op - ( C x + y , z ) = 1");
         CHECK.alike("fun ( ( C x ) + [ y ] ) z = 1", "fun op + ( C x , [ y ] ) z = 1");
         CHECK.alike("fun ( op + - op - ) z = 1", "fun op - ( op + , op - ) z = 1");
+        CHECK.alike("fun ( 1 + _ ) z = 1", "fun op + ( 1 , _ ) z = 1");
+        CHECK.alike("fun ( _ + A.b ) z = 1", "fun op + ( _ , A.b ) z = 1");
+        CHECK.alike("fun ( A.b + 's1 ) z = 1", "fun op + ( A.b , 's1 ) z = 1");
+        CHECK.alike("fun ( 's1 + 'w1 ) z = 1", "fun op + ( 's1 , 'w1 ) z = 1");
+        CHECK.alike("fun ( { a = 1 } + ( ) ) z = 1", "fun op + ( { a = 1 } , ( ) ) z = 1");
         CHECK.faultAt(1, "fun ( x + y - w ) ~> z = 1");
         CHECK.faultAt(1, "fun ( C x + y ) ~> z = 1");
         CHECK.faultAt(1, "fun ( x + C y ) ~> z = 1");
@@ -412,6 +422,10 @@ public final class GrammarEdgeTest {
         CHECK.faultAt(1, "fun ( x + y ~>");
         CHECK.faultAt(1, "fun ( x + y ) ~>");
         CHECK.faultAt(1, "fun ( x + y ~> ] = 1");
+        CHECK.faultAt(1, "fun f x ~> + y ) = 1");
+        CHECK.faultAt(1, "fun f x ~> + y ) z = 1");
+        CHECK.faultAt(1, "fun 1 ~> x + y ) = 1");
+        CHECK.faultAt(1, "fun [ x + y ~> ) = 1");
     }
 
     private static void atLeastOnePattern() {

@@ -159,6 +159,10 @@ final class Text {
         return label > 0 ? String.valueOf(label) : spell(-1 - label);
     }
 
+    private static String choice(int which, String zero, String one) {
+        return which == 0 ? zero : which == 1 ? one : zero + "?" + which;
+    }
+
     /** A node and all in it; the three fields are told by what the document says of the kind. */
     String show(CoreSyntax x, int i, boolean places) {
         if (i == -1) {
@@ -185,7 +189,7 @@ final class Text {
             case 30: return "_" + where;
             case 31: return "p" + a + where;
             case 32: return "." + spell(a, b) + where;
-            case 33: return (b == 1 ? "prec..." : "prec") + where + kids(x, places, a);
+            case 33: return choice(b, "prec", "prec...") + where + kids(x, places, a);
             case 34: return "." + label(a) + "=" + where + kids(x, places, b);
             case 35: return "con" + where + "(" + spell(a, b) + " " + show(x, c, places) + ")";
             case 36: return "ptyped" + where + kids(x, places, a, b);
@@ -197,7 +201,7 @@ final class Text {
             case 53: return "t" + where + "(" + show(x, a, places) + " " + spell(b, c) + ")";
             case 54: return "arrow" + where + kids(x, places, a, b);
             case 70: return "val" + where + kids(x, places, a, b);
-            case 71: return (c == 1 ? "bindrec" : "bind") + where + kids(x, places, a, b);
+            case 71: return choice(c, "bind", "bindrec") + where + kids(x, places, a, b);
             case 72: return "type" + where + kids(x, places, a);
             case 73: return "tb" + where + "(" + show(x, a, places) + " " + spell(b) + " "
                 + show(x, c, places) + ")";

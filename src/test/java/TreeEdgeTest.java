@@ -11,6 +11,11 @@ public final class TreeEdgeTest {
     private static final String ALL_KINDS = "val 'a ( x as { p = 1 , q = C _ , ... } : t ) = let in f { a = 1 } end : 'a -> { b : u }"
         + " fun g y = raise z handle _ => fn 2 => 3 type t = u datatype t = A of v and w = B withtype k = l"
         + " datatype t = datatype s abstype t = A with end exception E of t and F = G local in end open H";
+    /** Every derived form stands in this text. */
+    private static final String ALL_FORMS = "val ( ) = ( ) val ( a , b ) = ( c , d ) val [ e ] = [ f ] val g :: h = i + j = k"
+        + " val l = # 1 val m = case n of p => q val r = if s then t else u andalso v orelse w val x = ( y ; z )"
+        + " val a = let in b ; c end val d = while e do f val { a , b : t , c as d , e : t as f } = 1 type t = u * v"
+        + " fun f x = 1 fun f x y : t = 1 | op f z w = 2 fun x + y = 1 | ( z + w ) = 2 fun ( x + y ) z = 1 ; a ; A.b";
 
     public static void main(String[] args) {
         nodesOfNone();
@@ -30,6 +35,7 @@ public final class TreeEdgeTest {
         placesOfLists();
         placesOfDecs();
         placesOfBrackets();
+        placesOfPhrases();
         lengths();
         lengthOfOthers();
         items();
@@ -123,14 +129,18 @@ public final class TreeEdgeTest {
         int[] noA = {30};
         int[] noB = {10, 12, 18, 19, 30, 31, 50, 51, 72, 79, 83, 84};
         int[] hasC = {35, 37, 53, 71, 73, 75, 77, 78, 81};
-        CoreSyntax x = of(ALL_KINDS);
         Set<Integer> seen = new TreeSet<>();
-        for (int i = 0; i < x.nodes(); i++) {
-            int kind = x.node(i, 0);
-            seen.add(kind);
-            CHECK.due("a of kind " + kind, !has(noA, kind) || x.node(i, 1) == NONE, true);
-            CHECK.due("b of kind " + kind, !has(noB, kind) || x.node(i, 2) == NONE, true);
-            CHECK.due("c of kind " + kind, has(hasC, kind) || x.node(i, 3) == NONE, true);
+        for (String text : new String[] {ALL_KINDS, ALL_FORMS}) {
+            CoreSyntax x = of(text);
+            for (int i = 0; i < x.nodes(); i++) {
+                int kind = x.node(i, 0);
+                seen.add(kind);
+                CHECK.due("a of kind " + kind, !has(noA, kind) || x.node(i, 1) == NONE, true);
+                CHECK.due("b of kind " + kind, !has(noB, kind) || x.node(i, 2) == NONE, true);
+                CHECK.due("c of kind " + kind, has(hasC, kind) || x.node(i, 3) == NONE, true);
+                boolean named = kind == 11 || kind == 32;
+                CHECK.due("name or long name", !named || (x.node(i, 1) == NONE) != (x.node(i, 2) == NONE), true);
+            }
         }
         CHECK.due("kinds", seen.toString(), "[1, 10, 11, 12, 13, 14, 15, 16, 17, 18, 19, 20, 30, 31, 32, 33, 34, 35, 36, 37,"
             + " 50, 51, 52, 53, 54, 70, 71, 72, 73, 74, 75, 76, 77, 78, 79, 80, 81, 82, 83, 84]");
@@ -225,6 +235,9 @@ public final class TreeEdgeTest {
         names("datatype t = datatype", "", 77, 2);
         names("exception E =", "", 81, 2);
         names("open", "", 11, 1);
+        CHECK.exp("x A.b y A.c", "app(app(app(x A.b) y) A.c)");
+        CHECK.tree("val x A.b = 1 val A.c y = 2", "decs([val(- [bind(con(x .A.b) 1)]) val(- [bind(con(A.c .y) 2)])])");
+        CHECK.tree("type t = x A.b y A.c", "decs([type([tb(- t t([t([t([t(- x)] A.b)] y)] A.c))])])");
     }
 
     private static void constants() {
@@ -348,6 +361,31 @@ public final class TreeEdgeTest {
             "decs@0([val@0(- [bind@1(.x@2 handle@5(y@6 [rule@9(.z@10 1@13)]))])])");
         CHECK.placed("val ( x ) : t = 1", "decs@0([val@0(- [bind@1(ptyped@1(.x@2 t@5(- t)) 1@7)])])");
         CHECK.placed("type t = ( u ) v -> ( w )", "decs@0([type@0([tb@1(- t arrow@3(t@3([t@4(- u)] v) t@9(- w)))])])");
+    }
+
+    private static void placesOfPhrases() {
+        CHECK.sentence("Terms: a PLACE: the first token of its phrase");
+        CHECK.placed("; type t = 'a", "decs@0([type@1([tb@2(- t 'a@4)])])");
+        CHECK.placed("; type 'a t = u", "decs@0([type@1([tb@2(['a@2] t t@5(- u))])])");
+        CHECK.placed("; type ( 'a , 'b ) t = { a : u }",
+            "decs@0([type@1([tb@2(['a@3 'b@5] t trec@9([a:@10(t@12(- u))]))])])");
+        CHECK.placed("; type t = ( 'a , u ) v w",
+            "decs@0([type@1([tb@2(- t t@4([t@4(['a@5 t@7(- u)] v)] w))])])");
+        CHECK.placed("; val op x as C _ = fn 1 => raise y",
+            "decs@0([val@1(- [bind@2(as@2(x - con@5(C _@6)) fn@8([rule@9(p1@9 raise@11(y@12))]))])])");
+        CHECK.placed("; val op C ( x : t as y ) = op z",
+            "decs@0([val@1(- [bind@2(con@2(C as@5(x t@7(- t) .y@9)) z@12)])])");
+        CHECK.placed("; val { a = x , b : t } = A.b",
+            "decs@0([val@1(- [bind@2(prec@2([.a=@3(.x@5) .b=@7(ptyped@7(.b@7 t@9(- t)))]) A.b@12)])])");
+        CHECK.placed("; val rec x = { a = 1 , b = 2 }",
+            "decs@0([val@1(- [bindrec@3(.x@3 rec@5([a=@6(1@8) b=@10(2@12)]))])])");
+        CHECK.placed("; datatype t = op A of u | B and 'a v = C withtype w = x",
+            "decs@0([data@1([db@2(- t [cb@4(A t@7(- u)) cb@9(B -)]) db@11(['a@11] v [cb@14(C -)])] [tb@16(- w t@18(- x))])])");
+        CHECK.placed("; datatype t = datatype u", "decs@0([repl@1(t u)])");
+        CHECK.placed("; abstype t = A with open a end", "decs@0([abs@1([db@2(- t [cb@4(A -)])] - decs@6([open@6([a@7])]))])");
+        CHECK.placed("; exception op E of t and op F = G and H",
+            "decs@0([exc@1([eb@2(E t@5(- t)) ec@7(F G) eb@12(H -)])])");
+        CHECK.placed("; local in open a A.b end", "decs@0([local@1(decs@2(-) decs@3([open@3([a@4 A.b@5])]))])");
     }
 
     private static void lengths() {
@@ -565,6 +603,10 @@ public final class TreeEdgeTest {
             + "prec([.1=(.y) .2=(.z)]) fn([rule(prec...([.2=(.v4)]) v4)]))]) rec([1=(v2) 2=(v3)])))]))]))])])");
         CHECK.exp("case # 1 of _ => # 2",
             "app(fn([rule(_ fn([rule(prec...([.2=(.v0)]) v0)]))]) fn([rule(prec...([.1=(.v1)]) v1)]))");
+        CoreSyntax turned = of("case # 1 of _ => # 2");
+        new Text().read(turned, "( # 1 ) ( # 2 )", false);
+        CHECK.due("the first of a second parse", variable(turned, turned.node(exp(turned), 1)), 8192);
+        CHECK.due("the second of a second parse", variable(turned, turned.node(exp(turned), 2)), 8193);
         CoreSyntax again = of("# 1 # 2");
         new Text().read(again, "# 3", false);
         CHECK.due("counted anew in each parse", variable(again, exp(again)), 8192);
