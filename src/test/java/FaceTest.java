@@ -5,6 +5,7 @@ import java.lang.reflect.Method;
 import java.lang.reflect.Modifier;
 import java.nio.file.Files;
 import java.nio.file.Path;
+import java.util.List;
 import java.util.Set;
 import java.util.TreeSet;
 import java.util.regex.Matcher;
@@ -19,6 +20,7 @@ public final class FaceTest {
         fields();
         classes();
         text();
+        methodLengths();
         CHECK.end("FaceTest");
     }
 
@@ -107,5 +109,20 @@ public final class FaceTest {
             plain &= text.charAt(k) < 128;
         }
         CHECK.due("plain characters alone", plain, true);
+    }
+
+    /** A method begins with a line that opens a brace behind ) and ends with a brace as far to the right. */
+    private static void methodLengths() throws IOException {
+        List<String> lines = Files.readAllLines(Path.of("src/main/java/CoreSyntax.java"));
+        int methods = 0;
+        for (int first = 0; first < lines.size(); first++) {
+            Matcher head = Pattern.compile("( {4}| {8})[A-Za-z].*\\) \\{").matcher(lines.get(first));
+            if (head.matches()) {
+                int last = lines.subList(first, lines.size()).indexOf(head.group(1) + "}");
+                CHECK.due("lines of " + lines.get(first).trim(), last > 0 && last <= 60, true);
+                methods++;
+            }
+        }
+        CHECK.due("methods that were looked at", methods > 100, true);
     }
 }
